@@ -250,8 +250,9 @@ public final class ThreshRound {
     }
 
     private int speedOf(int f) {
-        int speed = cut(rules.tells(Customs.RATE) * gangOf(f), rules.tells(Customs.HANDS));
-        return Math.max(speed, 1);
+        int hands = rules.tells(Customs.HANDS);
+        int gang = debts.muster(farms, f, hands);
+        return Math.max(cut(rules.tells(Customs.RATE) * gang, hands), 1);
     }
 
     private int sacksOf(int f) {
@@ -292,18 +293,12 @@ public final class ThreshRound {
     private void passDay() {
         if (engine.broken > 0) {
             engine.broken--;
-        } else if (engine.going) {
-            goByPlan();
-        }
-        engine.today++;
-    }
-
-    private void goByPlan() {
-        if (engine.onTheWay > 0) {
+        } else if (engine.going && engine.onTheWay > 0) {
             engine.onTheWay--;
-        } else if (!isAheadOfFrom()) {
+        } else if (engine.going && !isAheadOfFrom()) {
             thresh(engine.place);
         }
+        engine.today++;
     }
 
     private void thresh(int f) {
@@ -351,12 +346,12 @@ public final class ThreshRound {
     }
 
     private static int at(int[][] rows, int i, int j) {
-        return i >= 0 && i < rows.length ? at(rows[i], j) : NONE;
+        return i >= 0 && i < rows.length && j >= 0 && j < rows[i].length ? rows[i][j] : NONE;
     }
 
     private static void put(int[][] rows, int i, int j, int value) {
-        if (i >= 0 && i < rows.length) {
-            put(rows[i], j, value);
+        if (i >= 0 && i < rows.length && j >= 0 && j < rows[i].length) {
+            rows[i][j] = value;
         }
     }
 

@@ -223,6 +223,14 @@ public final class PromisesTest {
         due("the tape is empty after a fault", x.feed(0, 0, 0, 0, 0), 20);
         due("no bytes of it", x.customs(0), 0);
         due("the tape is empty after none", x.feed(0, 0, 0, 0, 0), 20);
+        ThreshRound y = new ThreshRound();
+        feedText(y, "late 1;late 2;");
+        due("a line ends beyond n", y.customs(6), NONE);
+        due("a line ends beyond n: fault", y.fault(0), 1);
+        due("a line ends beyond n: at n", y.fault(1), 6);
+        feedText(y, "damp 10;");
+        due("a number goes on beyond n", y.customs(6), NONE);
+        due("a number goes on beyond n: at n", y.fault(1), 6);
     }
 
     private static void promise4() {
@@ -351,6 +359,13 @@ public final class PromisesTest {
         ThreshRound x = village(3);
         due("all alike", x.plan(), 0);
         dueOrder("of like ones the first by numbers", x, 1, 2, 3);
+        ThreshRound all = village(7);
+        due("seven alike", all.plan(), 0);
+        dueOrder("seven alike", all, 1, 2, 3, 4, 5, 6, 7);
+        all.way(6, 7, 0);
+        all.way(0, 7, 0);
+        all.plan();
+        dueOrder("two ways of no days", all, 7, 6, 1, 2, 3, 4, 5);
         ThreshRound y = new ThreshRound();
         y.farm(10, 0, 8, 0, 0, 99);
         y.farm(10, 0, 8, 0, 0, 99);
@@ -591,6 +606,17 @@ public final class PromisesTest {
         y.day(3);
         due("though a way comes later", y.count(1), 1);
         due("the other is not done", y.count(5), 1);
+        ThreshRound z = village(3);
+        z.plan();
+        z.out();
+        z.day(3);
+        due("at farm 2", z.count(1), 2);
+        z.plan();
+        due("a second plan at farm 2", z.out(), true);
+        z.day(1);
+        due("goes by its own steps", z.count(1), 3);
+        z.day(2);
+        due("to its end", z.count(5), 3);
     }
 
     private static void promise13() {
@@ -627,6 +653,11 @@ public final class PromisesTest {
         due("done on the last day of its span", x.look(1, 7), 0);
         tell(x, "sheaves 50; damp 0;");
         due("sacks by customs of now", x.look(1, 1), 0);
+        tell(x, "");
+        // 20 sheaves * (100 - 5 * 3) / 400
+        due("sacks by usual customs", x.look(1, 1), 4);
+        tell(x, "sheaves 1;");
+        due("sacks by usual damp", x.look(1, 1), 17);
         ThreshRound y = new ThreshRound();
         y.farm(30, 0, 8, 0, 0, 0);
         y.way(0, 1, 1);
@@ -658,6 +689,17 @@ public final class PromisesTest {
         due("45 by 4 sheaves, cut", x.look(1, 4), 1100);
         x.bargain(1, 0, 3);
         due("five days", x.look(1, 4), 15);
+        ThreshRound y = new ThreshRound();
+        tell(y, "sheaves 1; rate 99;");
+        y.farm(300, 1, 8, 0, 0, 99);
+        y.way(0, 1, 0);
+        y.bargain(1, 1, 999);
+        y.plan();
+        y.out();
+        y.day(9);
+        due("300 sheaves by 95 of 100", y.look(1, 1), 285);
+        due("285 sacks at 999", y.look(1, 4), 284715);
+        due("99 a day: four days", y.look(1, 2), 4);
     }
 
     private static void promise14() {
